@@ -99,11 +99,7 @@ public final class CavershamShift {
             throw new IllegalStateException("no more stations");
         }
         int number = dial.stations.size();
-        Station told = new Station(band, power, far, hours);
-        told.number = number;
-        told.land = land;
-        told.tongue = tongue;
-        dial.stations.add(told);
+        dial.stations.add(new Station(number, band, power, far, land, tongue, hours));
         return number;
     }
 
@@ -207,9 +203,7 @@ public final class CavershamShift {
             throw new IllegalStateException("the station is not on the air, or has a talk then");
         }
         int number = newsroom.talks.size();
-        Talk told = new Talk(speaker, hour, topic, words, weight, formulas);
-        told.number = number;
-        newsroom.talks.add(told);
+        newsroom.talks.add(new Talk(number, speaker, hour, topic, words, weight, formulas));
         return number;
     }
 
@@ -722,18 +716,21 @@ public final class CavershamShift {
 
     /** A station as it was told; only its band changes. */
     private static final class Station {
-        int number;
+        final int number;
         int band;
         final int power;
         final int far;
-        int land;
-        int tongue;
+        final int land;
+        final int tongue;
         final int hours;
 
-        Station(int band, int power, int far, int hours) {
+        Station(int number, int band, int power, int far, int land, int tongue, int hours) {
+            this.number = number;
             this.band = band;
             this.power = power;
             this.far = far;
+            this.land = land;
+            this.tongue = tongue;
             this.hours = hours;
         }
 
@@ -927,7 +924,7 @@ public final class CavershamShift {
 
     /** A talk as it was told, with its print and its report as they come. */
     private static final class Talk {
-        int number;
+        final int number;
         final Station station;
         final int hour;
         final int topic;
@@ -937,7 +934,8 @@ public final class CavershamShift {
         int print = NONE;
         Report report;
 
-        Talk(Station station, int hour, int topic, int words, int weight, int formulas) {
+        Talk(int number, Station station, int hour, int topic, int words, int weight, int formulas) {
+            this.number = number;
             this.station = station;
             this.hour = hour;
             this.topic = topic;

@@ -51,13 +51,20 @@ final class Checks {
         due(call + " changes nothing", x.digest(), before);
     }
 
-    static String thrownBy(Call made) {
+    private static String thrownBy(Call made) {
         try {
             made.run();
             return "nothing";
         } catch (RuntimeException e) {
-            return e.getClass().getSimpleName();
+            return nameOf(e);
         }
+    }
+
+    /** The library's own exceptions do not count for the document's: it is the class that must throw. */
+    static String nameOf(RuntimeException e) {
+        StackTraceElement[] places = e.getStackTrace();
+        boolean isByLibrary = places.length > 0 && places[0].getClassName().contains(".");
+        return (isByLibrary ? "the library's " : "") + e.getClass().getSimpleName();
     }
 
     private static void tell(String call, boolean isRight, String got, String want) {

@@ -69,7 +69,7 @@ public final class ModelTest {
         try {
             return told.on();
         } catch (RuntimeException e) {
-            return e.getClass().getSimpleName();
+            return Checks.nameOf(e);
         }
     }
 

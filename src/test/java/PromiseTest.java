@@ -511,6 +511,29 @@ public final class PromiseTest {
         Checks.due("waits on the next day", y.wouldSend(), 1);
         y.pass(1);
         Checks.due("23 hours behind", y.ofReport(2, 5), 1);
+        for (int place = 0; place < 3; place++) {
+            staleAt(place);
+        }
+    }
+
+    /** Three talks of 300 words in one hour; that at the place has the least weight. */
+    private static void staleAt(int place) {
+        CavershamShift x = post();
+        x.station(30, 9, 0, 0, 0, ALL_DAY);
+        x.station(40, 9, 0, 0, 0, ALL_DAY);
+        x.monitor(99999);
+        x.monitor(99999);
+        x.reader(0, 0);
+        for (int set = 0; set < 3; set++) {
+            x.shift(0, set, set, set);
+            x.talk(set, 0, 0, 300, set == place ? 5 : 6, 0);
+        }
+        x.pass(24);
+        Checks.due("waits at place " + place, x.ofReport(place, 5), 0);
+        Checks.due("ask for that at place " + place, x.ask(0, 1, 1), 1);
+        Checks.due("wouldSend()", x.wouldSend(), 0);
+        x.pass(1);
+        Checks.due("stale at place " + place, x.ofReport(place, 5), 2);
     }
 
     private static void call() {
@@ -640,6 +663,7 @@ public final class PromiseTest {
         x.shift(2, 0, 0, 0);
         x.pass(2);
         Checks.due("weary 3", x.quality(0, 0, 1), 7);
+        Checks.due("in the last hour of the day", x.quality(0, 0, 23), 7);
         x.pass(1);
         Checks.due("weary 6", x.quality(0, 0, 1), 6);
         for (int hour = 3; hour < 24; hour++) {
@@ -842,6 +866,7 @@ public final class PromiseTest {
         Checks.due("used(0, 0, 2, 1)", x.used(0, 0, 2, 1), 0);
         Checks.due("all days", x.used(0, 0, Integer.MIN_VALUE, Integer.MAX_VALUE), 3);
         Checks.due("another land", x.used(1, 0, 0, 9), 0);
+        Checks.due("the last land and formula", x.used(5, 15, 0, 9), 0);
         Checks.outOfBounds(x, "used(6, 0, 0, 0)", () -> x.used(6, 0, 0, 0));
         Checks.outOfBounds(x, "used(-1, 0, 0, 0)", () -> x.used(-1, 0, 0, 0));
         Checks.outOfBounds(x, "used(0, 16, 0, 0)", () -> x.used(0, 16, 0, 0));
@@ -860,6 +885,7 @@ public final class PromiseTest {
         x.pass(24);
         Checks.due("one report in days 4 to 6", x.gone(0), 0);
         Checks.due("another land", x.gone(1), 0);
+        Checks.due("the last land", x.gone(5), 0);
         Checks.outOfBounds(x, "gone(6)", () -> x.gone(6));
         Checks.outOfBounds(x, "gone(-1)", () -> x.gone(-1));
         goneByDays();
@@ -1049,6 +1075,7 @@ public final class PromiseTest {
         x.monitor(70);
         x.monitor(708);
         Checks.due("three sets", x.best(1), 18 + 14 + 14);
+        Checks.due("by the last hour", x.best(23), 18 + 14 + 14);
         x.pass(1);
         Checks.due("by another hour", x.best(0), 18 + 13 + 14);
         Checks.outOfBounds(x, "best(24)", () -> x.best(24));
@@ -1069,6 +1096,7 @@ public final class PromiseTest {
         x.monitor(92);
         bestShift(x, 0, new int[] {0, 0, 1, 1, NONE, NONE});
         bestShift(x, 1, new int[] {0, 0, 1, 1, 2, 2});
+        bestShift(x, 23, new int[] {0, 0, 1, 1, 2, 2});
         x.drift(2, 11);
         bestShift(x, 1, new int[] {1, 0, 2, 2, NONE, NONE});
         Checks.outOfBounds(x, "bestAt(24, 0, true)", () -> x.bestAt(24, 0, true));
@@ -1137,20 +1165,20 @@ public final class PromiseTest {
 
     private static void wouldSendBehindCorrections() {
         CavershamShift x = post();
-        sit(x, 0, 5);
-        x.talk(0, 0, 0, 300, 5, 3);
-        x.talk(0, 1, 0, 280, 5, 3);
-        x.talk(0, 2, 0, 300, 5, 3);
-        x.talk(0, 3, 0, 18, 3, 3);
-        x.pass(3);
-        Checks.due("desk(13)", x.desk(13), 20);
+        sit(x, 0, 4);
+        int[] words = {300, 300, 300, 300, 60};
+        for (int hour = 0; hour < 5; hour++) {
+            x.talk(0, hour, 0, words[hour], 5, 3);
+        }
+        x.pass(24);
+        Checks.due("the lengths that wait", x.ofReport(2, 1) + x.ofReport(3, 1) + x.ofReport(4, 1), 283 + 266 + 50);
+        Checks.due("wouldSend()", x.wouldSend(), 3);
         x.print(0, 8);
+        Checks.due("behind a correction", x.wouldSend(), 2);
         x.print(1, 8);
-        x.talk(0, 4, 0, 18, 3, 3);
-        Checks.due("wouldSend()", x.wouldSend(), 0);
         x.pass(1);
-        Checks.due("desk(13)", x.desk(13), 0);
-        Checks.due("ofReport(3, 5)", x.ofReport(3, 5), 0);
+        Checks.due("ofReport(4, 5)", x.ofReport(4, 5), 0);
+        Checks.due("desk(13)", x.desk(13), 600 - 20 - 283 - 266);
     }
 
     private static void wouldSendAtTheEnd() {
@@ -1212,5 +1240,65 @@ public final class PromiseTest {
         Checks.due("digest() changes nothing", x.digest(), d);
         x.call();
         Checks.due("digest() tells a change", x.digest() != d, true);
+        CavershamShift y = busyPost();
+        for (int i = 0; i < 10; i++) {
+            Checks.due("digest() by its parts", y.digest(), digestByParts(y));
+            y.print(i, 1 << i);
+            y.pass(3);
+        }
+    }
+
+    private static CavershamShift busyPost() {
+        CavershamShift x = post();
+        x.station(60, 8, 5, 5, 1, ALL_DAY);
+        x.station(61, 7, 4, 3, 2, ALL_DAY);
+        x.jammer(61, 1);
+        x.monitor(76543);
+        x.monitor(22222);
+        x.reader(63, 65535);
+        x.reader(33, 21845);
+        x.partner(8);
+        x.call();
+        for (int hour = 0; hour < 13; hour++) {
+            for (int set = 0; set < 3; set++) {
+                x.shift(hour, set, set, (set + hour) % 3);
+                x.talk(set, hour, (hour + set) % 16, 300 - 9 * hour, (hour + 3 * set) % 10, 21845 << set & 65535);
+            }
+        }
+        return x;
+    }
+
+    private static long digestByParts(CavershamShift x) {
+        long d = 58269;
+        for (int what = 0; what < 19; what++) {
+            d = d * 31 + x.desk(what);
+        }
+        for (int i = 0; i < x.desk(3) * 9; i++) {
+            d = d * 31 + x.ofStation(i / 9, i % 9);
+        }
+        for (int i = 0; i < x.desk(5) * 9; i++) {
+            d = d * 31 + x.ofMonitor(i / 9, i % 9);
+        }
+        for (int i = 0; i < 6; i++) {
+            d = d * 31 + x.bestAt(x.desk(2), i / 2, i % 2 == 1);
+        }
+        for (int talk = 0; talk < x.desk(6); talk++) {
+            for (int i = 0; i < 20; i++) {
+                d = d * 31 + (i < 8 ? x.ofTalk(talk, i) : x.ofReport(talk, i - 8));
+            }
+            for (int reader = 0; reader < x.desk(16); reader++) {
+                d = d * 31 + x.got(reader, talk);
+            }
+        }
+        for (int i = 0; i < x.desk(16) * 5; i++) {
+            d = d * 31 + x.ofReader(i / 5, i % 5);
+        }
+        for (int land = 0; land < 6; land++) {
+            d = (d * 31 + x.gone(land)) * 31 + (long) (64 * x.clarity(land));
+        }
+        for (int topic = 0; topic < 16; topic++) {
+            d = d * 31 + x.first(topic);
+        }
+        return ((d * 31 + x.best(x.desk(2))) * 31 + x.wouldSend()) * 31 + (x.isSound() ? 1 : 0);
     }
 }
