@@ -51,7 +51,8 @@ final class Checks {
         due(call + " changes nothing", x.digest(), before);
     }
 
-    private static String thrownBy(Call made) {
+    /** The name of the exception that the call throws, or "nothing". */
+    static String thrownBy(Call made) {
         try {
             made.run();
             return "nothing";
