@@ -13,6 +13,7 @@ public final class ModelTest {
     private static final int[] ASKED_EVER = {0, -1, 1, 2, 5, 23, 24, 100, Integer.MAX_VALUE, Integer.MIN_VALUE};
 
     private long seed;
+    private int calls;
     private final CavershamShift x = new CavershamShift();
     private final Model y;
     private final int mood;
@@ -28,8 +29,8 @@ public final class ModelTest {
         for (int run = 0; run < RUNS; run++) {
             Checks.part("run " + run);
             ModelTest test = new ModelTest(run, seen);
-            for (int call = 0; call < CALLS; call++) {
-                test.step(call);
+            for (int step = 0; test.calls < CALLS; step++) {
+                test.step(step);
             }
         }
         for (String what : WANTED) {
@@ -73,20 +74,25 @@ public final class ModelTest {
         }
     }
 
+    /** What the object answers behind its last call is free: so neither is asked then. */
     private void both(String call, Told byClass, Told byModel) {
+        if (calls == CALLS) {
+            return;
+        }
+        calls++;
         Object got = answer(byClass);
         Checks.due(call, String.valueOf(got), String.valueOf(answer(byModel)));
     }
 
-    private void step(int call) {
-        if (call < 40) {
+    private void step(int step) {
+        if (step < 40) {
             build();
         } else if (draw(10) < 6) {
             goOn();
         } else {
             askSome();
         }
-        if (call % 8 == 0) {
+        if (step % 8 == 0) {
             both("digest()", () -> x.digest(), () -> y.digest());
             both("isSound()", () -> x.isSound(), () -> y.isSound());
         }

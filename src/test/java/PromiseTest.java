@@ -1240,15 +1240,13 @@ public final class PromiseTest {
         Checks.due("digest() changes nothing", x.digest(), d);
         x.call();
         Checks.due("digest() tells a change", x.digest() != d, true);
-        CavershamShift y = busyPost();
-        for (int i = 0; i < 10; i++) {
-            Checks.due("digest() by its parts", y.digest(), digestByParts(y));
-            y.print(i, 1 << i);
-            y.pass(3);
+        for (int prints = 0; prints < 10; prints++) {
+            Checks.due("digest() by its parts", busyPost(prints).digest(), digestByParts(prints));
         }
     }
 
-    private static CavershamShift busyPost() {
+    /** The first talks have a print, and three hours went by behind each of these. */
+    private static CavershamShift busyPost(int prints) {
         CavershamShift x = post();
         x.station(60, 8, 5, 5, 1, ALL_DAY);
         x.station(61, 7, 4, 3, 2, ALL_DAY);
@@ -1265,10 +1263,16 @@ public final class PromiseTest {
                 x.talk(set, hour, (hour + set) % 16, 300 - 9 * hour, (hour + 3 * set) % 10, 21845 << set & 65535);
             }
         }
+        for (int talk = 0; talk < prints; talk++) {
+            x.print(talk, 1 << talk);
+            x.pass(3);
+        }
         return x;
     }
 
-    private static long digestByParts(CavershamShift x) {
+    /** Each talk is asked for on a post of its own, as an object is used for 512 calls at most. */
+    private static long digestByParts(int prints) {
+        CavershamShift x = busyPost(prints);
         long d = 58269;
         for (int what = 0; what < 19; what++) {
             d = d * 31 + x.desk(what);
@@ -1283,11 +1287,12 @@ public final class PromiseTest {
             d = d * 31 + x.bestAt(x.desk(2), i / 2, i % 2 == 1);
         }
         for (int talk = 0; talk < x.desk(6); talk++) {
+            CavershamShift y = busyPost(prints);
             for (int i = 0; i < 20; i++) {
-                d = d * 31 + (i < 8 ? x.ofTalk(talk, i) : x.ofReport(talk, i - 8));
+                d = d * 31 + (i < 8 ? y.ofTalk(talk, i) : y.ofReport(talk, i - 8));
             }
-            for (int reader = 0; reader < x.desk(16); reader++) {
-                d = d * 31 + x.got(reader, talk);
+            for (int reader = 0; reader < y.desk(16); reader++) {
+                d = d * 31 + y.got(reader, talk);
             }
         }
         for (int i = 0; i < x.desk(16) * 5; i++) {
